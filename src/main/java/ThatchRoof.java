@@ -55,13 +55,12 @@ public final class ThatchRoof {
             this.ridge = FULL_RIDGE;
         }
 
+        /** But for what it has lost so far, which nobody asks a trial for. */
         void becomeLike(Roof other) {
             width = other.width;
             courses = other.courses;
             slope = other.slope;
             ridge = other.ridge;
-            torn = other.torn;
-            worn = other.worn;
             System.arraycopy(other.kinds, 0, kinds, 0, MOST_YEALMS);
             System.arraycopy(other.thicknesses, 0, thicknesses, 0, MOST_YEALMS);
             System.arraycopy(other.spars, 0, spars, 0, MOST_YEALMS);
