@@ -6,13 +6,27 @@ final class Due {
 
     private int right;
     private int wrong;
+    private int sentences;
+    private String under = "";
+
+    /** One sentence of the document, and what holds it: a sentence without a check is wrong itself. */
+    void sentence(String words, Runnable checks) {
+        under = "[" + words + "] ";
+        int before = right + wrong;
+        checks.run();
+        if (right + wrong == before) {
+            same("nothing was checked,", "which", "something");
+        }
+        sentences++;
+        under = "";
+    }
 
     void same(String what, Object got, Object want) {
         if (want.equals(got)) {
             right++;
         } else {
             wrong++;
-            System.out.println(what + " answered " + got + ", due is " + want);
+            System.out.println(under + what + " answered " + got + ", due is " + want);
         }
     }
 
@@ -27,6 +41,19 @@ final class Due {
         same(what + " leaves the digest", x.digest(), before);
     }
 
+    /** What yealm() tells, in its order, as far as it is wanted. */
+    void told(ThatchRoof x, int roof, int course, int place, int... want) {
+        for (int what = 0; what < want.length; what++) {
+            int asked = what;
+            answers("yealm(" + roof + ", " + course + ", " + place + ", " + what + ")", want[what],
+                    () -> x.yealm(roof, course, place, asked));
+        }
+    }
+
+    void thick(ThatchRoof x, int course, int place, int want) {
+        answers("thickness of yealm " + course + ", " + place, want, () -> x.yealm(0, course, place, 2));
+    }
+
     /** The answer, or throws. and the exception's name. */
     static String outcome(Call call) {
         try {
@@ -37,7 +64,8 @@ final class Due {
     }
 
     void end(String test) {
-        System.out.println(test + ": " + right + " checks as due, " + wrong + " not");
+        System.out.println(test + ": " + (sentences == 0 ? "" : sentences + " sentences, ") + right
+                + " checks as due, " + wrong + " not");
         if (wrong != 0) {
             System.exit(1);
         }

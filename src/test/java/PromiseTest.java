@@ -46,34 +46,6 @@ public final class PromiseTest {
         test.due.end("PromiseTest");
     }
 
-    /** The barn filled, and no rain and no storm in any month. */
-    private static ThatchRoof calm() {
-        ThatchRoof x = new ThatchRoof();
-        for (int kind = 0; kind < 3; kind++) {
-            x.bring(kind, 500);
-        }
-        weather(x, 0, 0);
-        return x;
-    }
-
-    private static void weather(ThatchRoof x, int rain, int storm) {
-        for (int m = 0; m < 12; m++) {
-            x.setWeather(m, rain, storm);
-        }
-    }
-
-    private void told(ThatchRoof x, int roof, int course, int place, int... want) {
-        for (int what = 0; what < want.length; what++) {
-            int asked = what;
-            due.answers("yealm(" + roof + ", " + course + ", " + place + ", " + what + ")", want[what],
-                    () -> x.yealm(roof, course, place, asked));
-        }
-    }
-
-    private void thick(ThatchRoof x, int course, int place, int want) {
-        due.answers("thickness of yealm " + course + ", " + place, want, () -> x.yealm(0, course, place, 2));
-    }
-
     private void aNewObject() {
         ThatchRoof x = new ThatchRoof();
         int[] want = {0, 0, 0, 0, 0, 0, 0, 4, 0};
@@ -159,7 +131,7 @@ public final class PromiseTest {
     }
 
     private void lay() {
-        ThatchRoof x = calm();
+        ThatchRoof x = Villages.calm();
         due.refuses(x, "lay on no roof", INDEX, () -> x.lay(0, 0, 0, 0, 1, 0));
         x.build(3, 2, 30);
         int[][] nowhere = {{-1, 0, 0, 0}, {1, 0, 0, 0}, {6, 0, 0, 0}, {LEAST, 0, 0, 0}, {MOST, 0, 0, 0}, {0, -1, 0, 0},
@@ -177,12 +149,12 @@ public final class PromiseTest {
         }
         due.refuses(x, "none below", STATE, () -> x.lay(0, 1, 0, 0, 1, 0));
         due.answers("lay a 3", 1, () -> x.lay(0, 0, 0, 0, 3, 0));
-        told(x, 0, 0, 0, 1, 0, 3, 0, 0, 1);
+        due.told(x, 0, 0, 0, 1, 0, 3, 0, 0, 1);
         due.refuses(x, "one is there", STATE, () -> x.lay(0, 0, 0, 0, 3, 0));
         due.refuses(x, "none below at this place", STATE, () -> x.lay(0, 1, 1, 0, 1, 0));
         due.answers("lay a 4", 2, () -> x.lay(0, 1, 0, 1, 4, 9));
-        told(x, 0, 1, 0, 1, 1, 4, 9, 0, 0);
-        told(x, 0, 0, 0, 1, 0, 3, 0, 0, 0);
+        due.told(x, 0, 1, 0, 1, 1, 4, 9, 0, 0);
+        due.told(x, 0, 0, 0, 1, 0, 3, 0, 0, 0);
         due.answers("lay a 40", 11, () -> x.lay(0, 0, 2, 2, 40, 5));
         due.answers("lay a 7", 2, () -> x.lay(0, 1, 2, 2, 7, 5));
         due.answers("reed left", 499, () -> x.count(2));
@@ -203,7 +175,7 @@ public final class PromiseTest {
     }
 
     private void layCourse() {
-        ThatchRoof x = calm();
+        ThatchRoof x = Villages.calm();
         due.refuses(x, "layCourse on no roof", INDEX, () -> x.layCourse(0, 0, 0, 1, 0));
         x.build(4, 3, 30);
         int[][] nowhere = {{-1, 0, 0}, {1, 0, 0}, {MOST, 0, 0}, {0, -1, 0}, {0, 3, 0}, {0, LEAST, 0}, {0, 0, -1},
@@ -219,14 +191,14 @@ public final class PromiseTest {
         due.answers("none below anywhere", 0, () -> x.layCourse(0, 1, 0, 1, 0));
         x.lay(0, 0, 1, 2, 20, 4);
         due.answers("all but the one that is there", 3, () -> x.layCourse(0, 0, 0, 8, 3));
-        told(x, 0, 0, 0, 1, 0, 8, 3, 0, 1);
-        told(x, 0, 0, 1, 1, 2, 20, 4, 0, 1);
-        told(x, 0, 0, 3, 1, 0, 8, 3, 0, 1);
+        due.told(x, 0, 0, 0, 1, 0, 8, 3, 0, 1);
+        due.told(x, 0, 0, 1, 1, 2, 20, 4, 0, 1);
+        due.told(x, 0, 0, 3, 1, 0, 8, 3, 0, 1);
         due.answers("3 bundles for each", 491, () -> x.count(2));
         due.answers("all are there", 0, () -> x.layCourse(0, 0, 1, 8, 3));
         x.lay(0, 1, 2, 1, 1, 0);
         due.answers("only where one is below", 1, () -> x.layCourse(0, 2, 1, 40, 9));
-        told(x, 0, 2, 2, 1, 1, 40, 9, 0, 0);
+        due.told(x, 0, 2, 2, 1, 1, 40, 9, 0, 0);
         courseOfFewBundles();
     }
 
@@ -238,15 +210,15 @@ public final class PromiseTest {
         x.bring(1, 500);
         due.answers("8 bundles for two yealms of 3", 2, () -> x.layCourse(0, 0, 0, 11, 0));
         due.answers("2 are left", 2, () -> x.count(2));
-        told(x, 0, 0, 1, 1);
-        told(x, 0, 0, 2, 0, -1, 0, 0, 0, 0);
+        due.told(x, 0, 0, 1, 1);
+        due.told(x, 0, 0, 2, 0, -1, 0, 0, 0, 0);
         due.answers("place by place", 2, () -> x.layCourse(0, 0, 0, 1, 0));
-        told(x, 0, 0, 3, 1, 0, 1);
-        told(x, 0, 0, 4, 0);
+        due.told(x, 0, 0, 3, 1, 0, 1);
+        due.told(x, 0, 0, 4, 0);
     }
 
     private void mend() {
-        ThatchRoof x = calm();
+        ThatchRoof x = Villages.calm();
         due.refuses(x, "mend no roof", INDEX, () -> x.mend(0, 0, 0));
         x.build(2, 2, 30);
         int[][] nowhere = {{-1, 0, 0}, {1, 0, 0}, {LEAST, 0, 0}, {0, -1, 0}, {0, 2, 0}, {0, MOST, 0}, {0, 0, -1},
@@ -256,16 +228,16 @@ public final class PromiseTest {
         }
         due.refuses(x, "mend no yealm", STATE, () -> x.mend(0, 0, 0));
         x.lay(0, 0, 0, 1, 13, 5);
-        weather(x, 9, 0);
+        Villages.weather(x, 9, 0);
         x.pass(1);
-        told(x, 0, 0, 0, 1, 1, 8, 5, 1, 1);
+        due.told(x, 0, 0, 0, 1, 1, 8, 5, 1, 1);
         due.answers("mend", 18, () -> x.mend(0, 0, 0));
-        told(x, 0, 0, 0, 1, 1, 18, 7, 0, 1);
+        due.told(x, 0, 0, 0, 1, 1, 18, 7, 0, 1);
         due.answers("3 straw for it", 493, () -> x.count(3));
         due.answers("no reed for it", 500, () -> x.count(2));
         x.mend(0, 0, 0);
         due.answers("mend a third time", 38, () -> x.mend(0, 0, 0));
-        told(x, 0, 0, 0, 1, 1, 38, 9, 0, 1);
+        due.told(x, 0, 0, 0, 1, 1, 38, 9, 0, 1);
         due.answers("mend up to 40", 40, () -> x.mend(0, 0, 0));
         due.answers("mend a 40", 40, () -> x.mend(0, 0, 0));
         due.answers("which takes bundles too", 481, () -> x.count(3));
@@ -277,7 +249,7 @@ public final class PromiseTest {
         y.lay(0, 0, 0, 2, 1, 8);
         y.lay(0, 0, 1, 2, 1, 8);
         due.answers("mend with 4", 11, () -> y.mend(0, 0, 0));
-        told(y, 0, 0, 0, 1, 2, 11, 9);
+        due.told(y, 0, 0, 0, 1, 2, 11, 9);
         due.refuses(y, "1 is too few", STATE, () -> y.mend(0, 0, 0));
         y.bring(2, 1);
         due.refuses(y, "2 are too few", STATE, () -> y.mend(0, 0, 0));
@@ -311,19 +283,19 @@ public final class PromiseTest {
     }
 
     private void yealm() {
-        ThatchRoof x = calm();
+        ThatchRoof x = Villages.calm();
         due.refuses(x, "yealm of no roof", INDEX, () -> x.yealm(0, 0, 0, 0));
         x.build(2, 3, 30);
         x.lay(0, 0, 0, 2, 21, 6);
         x.lay(0, 1, 0, 1, 9, 1);
         x.lay(0, 2, 0, 0, 40, 9);
         x.lay(0, 0, 1, 0, 1, 0);
-        told(x, 0, 0, 0, 1, 2, 21, 6, 0, 0);
-        told(x, 0, 1, 0, 1, 1, 9, 1, 0, 0);
-        told(x, 0, 2, 0, 1, 0, 40, 9, 0, 0);
-        told(x, 0, 0, 1, 1, 0, 1, 0, 0, 1);
-        told(x, 0, 1, 1, 0, -1, 0, 0, 0, 0);
-        told(x, 0, 2, 1, 0, -1, 0, 0, 0, 0);
+        due.told(x, 0, 0, 0, 1, 2, 21, 6, 0, 0);
+        due.told(x, 0, 1, 0, 1, 1, 9, 1, 0, 0);
+        due.told(x, 0, 2, 0, 1, 0, 40, 9, 0, 0);
+        due.told(x, 0, 0, 1, 1, 0, 1, 0, 0, 1);
+        due.told(x, 0, 1, 1, 0, -1, 0, 0, 0, 0);
+        due.told(x, 0, 2, 1, 0, -1, 0, 0, 0, 0);
         int[][] nowhere = {{-1, 0, 0, 0}, {1, 0, 0, 0}, {0, -1, 0, 0}, {0, 3, 0, 0}, {0, 0, -1, 0}, {0, 0, 2, 0},
             {0, 0, 0, -1}, {0, 0, 0, 6}, {MOST, 0, 0, 0}, {0, MOST, 0, 0}, {0, 0, MOST, 0}, {0, 0, 0, MOST},
             {LEAST, 0, 0, 0}, {0, LEAST, 0, 0}, {0, 0, LEAST, 0}, {0, 0, 0, LEAST}};
@@ -333,7 +305,7 @@ public final class PromiseTest {
     }
 
     private void roof() {
-        ThatchRoof x = calm();
+        ThatchRoof x = Villages.calm();
         x.build(3, 2, 33);
         x.build(2, 4, 60);
         x.layCourse(0, 0, 0, 20, 0);
@@ -351,7 +323,7 @@ public final class PromiseTest {
     }
 
     private void leaks() {
-        ThatchRoof x = calm();
+        ThatchRoof x = Villages.calm();
         x.build(2, 2, 30);
         due.answers("without thatch", 2, () -> x.roof(0, 6));
         x.lay(0, 0, 0, 0, 40, 0);
@@ -404,25 +376,25 @@ public final class PromiseTest {
 
     /** Rain of 9 takes 9 * 40 / 100 = 3 of what is covered; a yealm with nothing left has worn away. */
     private void rain() {
-        ThatchRoof x = calm();
+        ThatchRoof x = Villages.calm();
         x.build(3, 2, 30);
         x.layCourse(0, 0, 0, 40, 9);
         x.lay(0, 1, 0, 0, 4, 9);
         x.lay(0, 1, 1, 2, 3, 9);
         x.lay(0, 1, 2, 2, 2, 9);
-        weather(x, 9, 0);
+        Villages.weather(x, 9, 0);
         due.answers("two wear away", 2, () -> x.pass(1));
-        thick(x, 0, 0, 37);
-        thick(x, 1, 0, 1);
-        told(x, 0, 1, 1, 0, -1, 0, 0, 0, 0);
+        due.thick(x, 0, 0, 37);
+        due.thick(x, 1, 0, 1);
+        due.told(x, 0, 1, 1, 0, -1, 0, 0, 0, 0);
         due.answers("worn", 2, () -> x.roof(0, 8));
         due.answers("torn", 0, () -> x.roof(0, 7));
 
-        ThatchRoof steep = calm();
+        ThatchRoof steep = Villages.calm();
         steep.build(2, 2, 60);
         steep.layCourse(0, 0, 0, 40, 9);
         steep.layCourse(0, 1, 0, 40, 9);
-        weather(steep, 9, 0);
+        Villages.weather(steep, 9, 0);
         steep.pass(5);
         due.answers("9 * 10 / 100 is 0", 160, () -> steep.roof(0, 5));
         steep.build(2, 2, 59);
@@ -437,62 +409,62 @@ public final class PromiseTest {
     }
 
     private void rainOnBareAndStraw() {
-        ThatchRoof x = calm();
+        ThatchRoof x = Villages.calm();
         x.build(4, 2, 37);
         x.lay(0, 0, 0, 0, 40, 9);
         x.lay(0, 0, 1, 1, 40, 9);
         x.lay(0, 0, 2, 1, 40, 9);
         x.lay(0, 1, 2, 1, 40, 9);
         x.lay(0, 0, 3, 2, 40, 9);
-        weather(x, 2, 0);
+        Villages.weather(x, 2, 0);
         x.pass(1);
-        thick(x, 0, 0, 39);
-        thick(x, 0, 1, 38);
-        thick(x, 0, 2, 39);
-        thick(x, 1, 2, 39);
-        thick(x, 0, 3, 39);
-        weather(x, 0, 0);
+        due.thick(x, 0, 0, 39);
+        due.thick(x, 0, 1, 38);
+        due.thick(x, 0, 2, 39);
+        due.thick(x, 1, 2, 39);
+        due.thick(x, 0, 3, 39);
+        Villages.weather(x, 0, 0);
         x.pass(1);
-        thick(x, 0, 0, 39);
-        thick(x, 0, 1, 37);
-        thick(x, 1, 2, 38);
+        due.thick(x, 0, 0, 39);
+        due.thick(x, 0, 1, 37);
+        due.thick(x, 1, 2, 38);
     }
 
     /** Rain of 9 on a slope of 30: 3 in three months, then with moss of 3 and more 4. */
     private void mossThinsOut() {
-        ThatchRoof x = calm();
+        ThatchRoof x = Villages.calm();
         x.build(2, 2, 30);
         x.layCourse(0, 0, 0, 40, 9);
         x.layCourse(0, 1, 0, 40, 9);
-        weather(x, 9, 0);
+        Villages.weather(x, 9, 0);
         int[] want = {37, 34, 31, 27, 23, 19, 15};
         for (int w : want) {
             x.pass(1);
-            thick(x, 1, 0, w);
+            due.thick(x, 1, 0, w);
         }
         x.mend(0, 1, 0);
         x.pass(1);
-        thick(x, 1, 0, 22);
-        thick(x, 1, 1, 11);
+        due.thick(x, 1, 0, 22);
+        due.thick(x, 1, 1, 11);
         x.pass(3);
-        told(x, 0, 1, 1, 0);
+        due.told(x, 0, 1, 1, 0);
         x.lay(0, 0, 1, 0, 40, 9);
         x.lay(0, 1, 1, 0, 30, 8);
-        told(x, 0, 1, 1, 1, 0, 30, 8, 0, 0);
+        due.told(x, 0, 1, 1, 1, 0, 30, 8, 0, 0);
     }
 
     private void mossGrows() {
-        ThatchRoof x = calm();
+        ThatchRoof x = Villages.calm();
         x.build(2, 2, 44);
         x.build(2, 2, 45);
         for (int roof = 0; roof < 2; roof++) {
             x.layCourse(roof, 0, 0, 40, 9);
             x.layCourse(roof, 1, 0, 40, 9);
         }
-        weather(x, 4, 0);
+        Villages.weather(x, 4, 0);
         x.pass(2);
         due.answers("none by a rain of 4", 0, () -> x.yealm(0, 0, 0, 4));
-        weather(x, 5, 0);
+        Villages.weather(x, 5, 0);
         x.pass(1);
         due.answers("one by a rain of 5", 1, () -> x.yealm(0, 0, 0, 4));
         due.answers("in all courses", 1, () -> x.yealm(0, 1, 1, 4));
@@ -508,7 +480,7 @@ public final class PromiseTest {
 
     /** In the middle, below the highest course, and covered: torn by storm * 2 over 2 * spars. */
     private void storm() {
-        ThatchRoof x = calm();
+        ThatchRoof x = Villages.calm();
         x.build(5, 3, 30);
         x.layCourse(0, 0, 0, 3, 4);
         x.layCourse(0, 1, 0, 40, 9);
@@ -516,20 +488,20 @@ public final class PromiseTest {
         x.setWeather(0, 0, 4);
         x.setWeather(1, 0, 5);
         due.answers("the two at the ends", 2, () -> x.pass(1));
-        told(x, 0, 0, 0, 0);
-        told(x, 0, 1, 0, 1);
-        told(x, 0, 2, 0, 1);
+        due.told(x, 0, 0, 0, 0);
+        due.told(x, 0, 1, 0, 1);
+        due.told(x, 0, 2, 0, 1);
         due.answers("10 against 8", 3, () -> x.pass(1));
-        told(x, 0, 0, 2, 0);
+        due.told(x, 0, 0, 2, 0);
         due.answers("torn", 5, () -> x.roof(0, 7));
         due.answers("worn", 0, () -> x.roof(0, 8));
         due.answers("one may be laid anew", 1, () -> x.lay(0, 0, 2, 1, 3, 0));
-        told(x, 0, 0, 2, 1, 1, 3, 0, 0, 0);
+        due.told(x, 0, 0, 2, 1, 1, 3, 0, 0, 0);
     }
 
     /** No storm at all: what is bare pulls by 3, what is at an end by 2. */
     private void stormAndEnds() {
-        ThatchRoof x = calm();
+        ThatchRoof x = Villages.calm();
         x.build(5, 2, 30);
         x.lay(0, 0, 0, 0, 3, 2);
         x.lay(0, 0, 1, 0, 3, 1);
@@ -537,33 +509,33 @@ public final class PromiseTest {
         x.lay(0, 0, 3, 0, 4, 1);
         x.lay(0, 0, 4, 0, 4, 2);
         due.answers("the bare ones", 2, () -> x.pass(1));
-        told(x, 0, 0, 0, 0);
-        told(x, 0, 0, 1, 0);
-        told(x, 0, 0, 2, 1);
-        told(x, 0, 0, 3, 1);
-        told(x, 0, 0, 4, 1);
+        due.told(x, 0, 0, 0, 0);
+        due.told(x, 0, 0, 1, 0);
+        due.told(x, 0, 0, 2, 1);
+        due.told(x, 0, 0, 3, 1);
+        due.told(x, 0, 0, 4, 1);
 
-        ThatchRoof y = calm();
+        ThatchRoof y = Villages.calm();
         y.build(3, 2, 30);
         y.layCourse(0, 0, 0, 3, 0);
         y.layCourse(0, 1, 0, 3, 0);
         due.answers("the ends, held by nothing", 2, () -> y.pass(1));
-        told(y, 0, 0, 0, 0);
-        told(y, 0, 0, 1, 1);
-        told(y, 0, 0, 2, 0);
-        told(y, 0, 1, 0, 1);
+        due.told(y, 0, 0, 0, 0);
+        due.told(y, 0, 0, 1, 1);
+        due.told(y, 0, 0, 2, 0);
+        due.told(y, 0, 1, 0, 1);
     }
 
     /** In the highest course the ridge holds by its 20th part. */
     private void stormAndRidge() {
-        ThatchRoof x = calm();
+        ThatchRoof x = Villages.calm();
         x.build(3, 2, 60);
         x.layCourse(0, 0, 0, 40, 9);
         x.layCourse(0, 1, 0, 3, 0);
         due.answers("5 is held by 5, 4 and 2", 2, () -> x.tears(0, 2));
         x.setWeather(0, 0, 2);
         due.answers("6 and 4 against 5", 2, () -> x.pass(1));
-        told(x, 0, 1, 1, 1);
+        due.told(x, 0, 1, 1, 1);
         due.answers("97 / 20 is 4", 97, () -> x.roof(0, 3));
         due.answers("4 is held by 4", 0, () -> x.tears(0, 2));
         x.setWeather(0, 0, 0);
@@ -574,7 +546,7 @@ public final class PromiseTest {
     }
 
     private void stormAndThickness() {
-        ThatchRoof x = calm();
+        ThatchRoof x = Villages.calm();
         x.build(4, 3, 60);
         x.layCourse(0, 0, 0, 40, 9);
         x.lay(0, 1, 1, 0, 27, 0);
@@ -582,13 +554,13 @@ public final class PromiseTest {
         due.answers("7 against 6", 1, () -> x.tears(0, 2));
         x.setWeather(0, 0, 2);
         due.answers("7 against 6", 1, () -> x.pass(1));
-        told(x, 0, 1, 1, 0);
-        told(x, 0, 1, 2, 1);
+        due.told(x, 0, 1, 1, 0);
+        due.told(x, 0, 1, 2, 1);
     }
 
     /** A step looks at what was ahead of it: the storm sees what the rain laid bare, and not what it tears. */
     private void stepsOfAMonth() {
-        ThatchRoof x = calm();
+        ThatchRoof x = Villages.calm();
         x.build(4, 2, 30);
         x.layCourse(0, 0, 0, 10, 0);
         x.lay(0, 1, 1, 0, 3, 9);
@@ -597,38 +569,38 @@ public final class PromiseTest {
         due.answers("one wears away, three are torn", 4, () -> x.pass(1));
         due.answers("worn", 1, () -> x.roof(0, 8));
         due.answers("torn", 3, () -> x.roof(0, 7));
-        told(x, 0, 0, 1, 0);
-        told(x, 0, 0, 2, 1, 0, 7, 0, 1, 0);
+        due.told(x, 0, 0, 1, 0);
+        due.told(x, 0, 0, 2, 1, 0, 7, 0, 1, 0);
 
-        ThatchRoof covered = calm();
+        ThatchRoof covered = Villages.calm();
         covered.build(2, 2, 30);
         covered.lay(0, 0, 0, 0, 40, 9);
         covered.lay(0, 1, 0, 0, 3, 9);
         covered.setWeather(0, 9, 0);
         covered.pass(1);
-        thick(covered, 0, 0, 37);
+        due.thick(covered, 0, 0, 37);
         covered.setWeather(1, 9, 0);
         covered.pass(1);
-        thick(covered, 0, 0, 33);
+        due.thick(covered, 0, 0, 33);
 
-        ThatchRoof torn = calm();
+        ThatchRoof torn = Villages.calm();
         torn.build(2, 2, 30);
         torn.lay(0, 0, 0, 0, 8, 9);
         torn.lay(0, 1, 0, 0, 20, 0);
         torn.setWeather(0, 0, 9);
         due.answers("what was covered stays", 1, () -> torn.pass(1));
-        told(torn, 0, 0, 0, 1, 0, 8, 9, 0, 1);
+        due.told(torn, 0, 0, 0, 1, 0, 8, 9, 0, 1);
         torn.setWeather(1, 0, 9);
         due.answers("until the next month", 1, () -> torn.pass(1));
         due.answers("torn", 2, () -> torn.roof(0, 7));
     }
 
     private void ridgeWears() {
-        ThatchRoof x = calm();
+        ThatchRoof x = Villages.calm();
         x.build(2, 2, 30);
         x.pass(1);
         due.answers("1 in each month", 99, () -> x.roof(0, 3));
-        weather(x, 0, 9);
+        Villages.weather(x, 0, 9);
         x.pass(9);
         due.answers("and the storm", 9, () -> x.roof(0, 3));
         x.pass(1);
@@ -640,7 +612,7 @@ public final class PromiseTest {
     }
 
     private void monthsOfTheYear() {
-        ThatchRoof x = calm();
+        ThatchRoof x = Villages.calm();
         x.build(2, 2, 30);
         x.setWeather(0, 0, 3);
         x.setWeather(11, 1, 7);
@@ -657,7 +629,7 @@ public final class PromiseTest {
     }
 
     private void tears() {
-        ThatchRoof x = calm();
+        ThatchRoof x = Villages.calm();
         due.refuses(x, "tears of no roof", INDEX, () -> x.tears(0, 0));
         x.build(4, 2, 40);
         x.layCourse(0, 0, 0, 20, 4);
@@ -678,7 +650,7 @@ public final class PromiseTest {
     }
 
     private void holds() {
-        ThatchRoof x = calm();
+        ThatchRoof x = Villages.calm();
         due.refuses(x, "holds of no roof", INDEX, () -> x.holds(0));
         x.build(2, 2, 30);
         for (int roof : new int[] {-1, 1, LEAST, MOST}) {
@@ -688,7 +660,7 @@ public final class PromiseTest {
         x.layCourse(0, 0, 0, 40, 9);
         x.layCourse(0, 1, 0, 40, 9);
         due.answers("no rain", -1, () -> x.holds(0));
-        weather(x, 9, 0);
+        Villages.weather(x, 9, 0);
         long before = x.digest();
         // 80 less 6, 6, 6, then 8 a month: 62 - 8 * 5 = 22, and 14 in the ninth month
         due.answers("below 16", 9, () -> x.holds(0));
@@ -698,7 +670,7 @@ public final class PromiseTest {
         x.pass(1);
         due.answers("all leak", -1, () -> x.holds(0));
 
-        ThatchRoof slow = calm();
+        ThatchRoof slow = Villages.calm();
         slow.build(2, 6, 60);
         for (int course = 0; course < 6; course++) {
             slow.layCourse(0, course, course == 0 ? 1 : 0, course == 5 ? 8 : 40, 9);
@@ -709,7 +681,7 @@ public final class PromiseTest {
 
     /** Rain in one month of the year, of 9 on a slope of 45, takes 9 * 25 / 100 of each of two: 4 in a year. */
     private void lastMonthOfHolds() {
-        ThatchRoof x = calm();
+        ThatchRoof x = Villages.calm();
         x.setWeather(11, 9, 0);
         x.build(2, 2, 45);
         x.layCourse(0, 0, 2, 16, 9);
@@ -735,17 +707,17 @@ public final class PromiseTest {
 
     /** What is foreseen goes on from all that a yealm is by now. */
     private void holdsWithMossAndStraw() {
-        ThatchRoof x = calm();
+        ThatchRoof x = Villages.calm();
         x.build(2, 2, 30);
         x.layCourse(0, 0, 0, 40, 9);
         x.layCourse(0, 1, 0, 40, 9);
-        weather(x, 9, 0);
+        Villages.weather(x, 9, 0);
         x.pass(3);
         due.answers("62 less 6 * 8", 6, () -> x.holds(0));
         x.build(2, 2, 60);
         x.layCourse(1, 0, 1, 10, 9);
         x.layCourse(1, 1, 1, 10, 9);
-        weather(x, 0, 0);
+        Villages.weather(x, 0, 0);
         due.answers("20 less 3 * 2", 3, () -> x.holds(1));
         due.answers("20 less 2 * 2", 0, () -> x.foresee(1, 2, 1));
         due.answers("20 less 3 * 2", 2, () -> x.foresee(1, 3, 1));
@@ -754,7 +726,7 @@ public final class PromiseTest {
     }
 
     private void foresee() {
-        ThatchRoof x = calm();
+        ThatchRoof x = Villages.calm();
         due.refuses(x, "foresee of no roof", INDEX, () -> x.foresee(0, 1, 0));
         x.build(2, 2, 30);
         int[][] nowhere = {{-1, 0}, {1, 0}, {LEAST, 0}, {MOST, 0}, {0, -1}, {0, 3}, {0, LEAST}, {0, MOST}};
@@ -768,7 +740,7 @@ public final class PromiseTest {
         x.layCourse(0, 0, 0, 8, 9);
         x.lay(0, 1, 0, 0, 40, 9);
         x.lay(0, 1, 1, 0, 8, 9);
-        weather(x, 9, 1);
+        Villages.weather(x, 9, 1);
         x.setWeather(1, 0, 9);
         long before = x.digest();
         due.answers("yealms by now", 4, () -> x.foresee(0, 1, 0));
@@ -786,7 +758,7 @@ public final class PromiseTest {
     }
 
     private void advise() {
-        ThatchRoof x = calm();
+        ThatchRoof x = Villages.calm();
         due.refuses(x, "advise on no roof", INDEX, () -> x.advise(0, 1));
         x.build(4, 2, 30);
         for (int roof : new int[] {-1, 1, LEAST, MOST}) {
@@ -799,7 +771,7 @@ public final class PromiseTest {
         x.layCourse(0, 0, 0, 40, 9);
         x.layCourse(0, 1, 0, 40, 9);
         due.answers("all are left without", -1, () -> x.advise(0, 24));
-        weather(x, 9, 0);
+        Villages.weather(x, 9, 0);
         due.answers("none is left with it", -1, () -> x.advise(0, 24));
 
         ThatchRoof one = new ThatchRoof();
@@ -809,7 +781,7 @@ public final class PromiseTest {
         one.lay(0, 1, 0, 0, 40, 9);
         one.lay(0, 1, 1, 0, 40, 9);
         one.lay(0, 1, 2, 0, 5, 9);
-        weather(one, 4, 0);
+        Villages.weather(one, 4, 0);
         long before = one.digest();
         due.answers("the thin one, whatever is in the barn", 6, () -> one.advise(0, 5));
         due.answers("not yet", -1, () -> one.advise(0, 4));
@@ -819,31 +791,31 @@ public final class PromiseTest {
     }
 
     private void adviseOrder() {
-        ThatchRoof x = calm();
+        ThatchRoof x = Villages.calm();
         x.build(5, 2, 30);
         x.layCourse(0, 0, 0, 40, 9);
         x.lay(0, 1, 3, 0, 4, 9);
         x.lay(0, 1, 1, 2, 4, 9);
         x.lay(0, 1, 2, 2, 40, 9);
-        weather(x, 4, 0);
+        Villages.weather(x, 4, 0);
         due.answers("of several the least", 6, () -> x.advise(0, 4));
 
-        ThatchRoof first = calm();
+        ThatchRoof first = Villages.calm();
         first.build(2, 2, 60);
         first.lay(0, 0, 0, 0, 1, 9);
-        weather(first, 8, 0);
+        Villages.weather(first, 8, 0);
         due.answers("the very first", 0, () -> first.advise(0, 1));
 
-        ThatchRoof ridged = calm();
+        ThatchRoof ridged = Villages.calm();
         ridged.build(3, 2, 60);
         ridged.layCourse(0, 0, 0, 40, 9);
         ridged.lay(0, 1, 1, 0, 3, 0);
-        weather(ridged, 0, 2);
+        Villages.weather(ridged, 0, 2);
         // the ridge is 79 in the eighth month, and holds by 3 against 4
         due.answers("the ridge holds it", -1, () -> ridged.advise(0, 7));
         due.answers("the ridge no longer holds it", 4, () -> ridged.advise(0, 8));
 
-        ThatchRoof y = calm();
+        ThatchRoof y = Villages.calm();
         y.build(5, 3, 30);
         y.layCourse(0, 0, 0, 40, 9);
         y.lay(0, 1, 1, 0, 3, 9);
@@ -861,7 +833,7 @@ public final class PromiseTest {
     }
 
     private void needs() {
-        ThatchRoof x = calm();
+        ThatchRoof x = Villages.calm();
         due.refuses(x, "needs of no roof", INDEX, () -> x.needs(0, 1));
         x.build(10, 6, 30);
         for (int roof : new int[] {-1, 1, LEAST, MOST}) {
@@ -884,7 +856,7 @@ public final class PromiseTest {
     }
 
     private void mean() {
-        ThatchRoof x = calm();
+        ThatchRoof x = Villages.calm();
         x.build(2, 2, 30);
         x.build(3, 2, 30);
         due.same("no yealms", x.mean(), 0.0);
