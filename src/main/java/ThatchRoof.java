@@ -565,12 +565,15 @@ public final class ThatchRoof {
         }
         int best = -1;
         int mostSaved = 0;
-        for (int course = 0; course < thatched.high(); course++) {
-            for (int place = 0; place < thatched.wide(); place++) {
-                int saved = lostAt(thatched, place, months, NO_COURSE) - lostAt(thatched, place, months, course);
-                if (saved > mostSaved) {
+        for (int place = 0; place < thatched.wide(); place++) {
+            int lost = lostAt(thatched, place, months, NO_COURSE);
+            // a place that loses nothing has nothing to save
+            for (int course = 0; course < thatched.high() && lost > 0; course++) {
+                int saved = lost - lostAt(thatched, place, months, course);
+                int number = thatched.numberOf(course, place);
+                if (saved > mostSaved || (saved == mostSaved && number < best)) {
                     mostSaved = saved;
-                    best = thatched.numberOf(course, place);
+                    best = number;
                 }
             }
         }
